@@ -82,7 +82,7 @@ public final class ActsTest {
 
     private static void actsOfNobody() {
         TurnBack x = all(0, 3);
-        for (int[] wrong : new int[][] {{-1, 0}, {2, 0}, {0, -1}, {0, 3}, {6, 9}}) {
+        for (int[] wrong : new int[][] {{-1, 0}, {2, 0}, {0, -1}, {0, 3}, {1, 3}, {1, -1}, {6, 9}}) {
             x.act(1, 2, 5);
             due.is("a trace", x.trace(0), 40);
             due.is("no such one, act", x.act(wrong[0], wrong[1], 5), 0);

@@ -151,6 +151,15 @@ public final class DaysTest {
         due.is("changes nothing: place", x.of(0, 3), 0);
         due.is("changes nothing: worth", x.of(0, 2), 8);
         due.is("nobody to ask of", new TurnBack().on(1, 10), -1);
+        TurnBack bride = new TurnBack();
+        bride.traveller(1, 7, 17, 4);
+        bride.traveller(6, 0, 13, 4);
+        bride.row(1, 0, 3);
+        due.is("a bride's and one told's", bride.on(1, 0), 470);
+        due.is("what pays asks is over", bride.pays(1, 2) + bride.on(1, 0), 49 + 470);
+        due.is("what odds asks is over", bride.odds(0, 1, 0) + bride.on(1, 0), 470);
+        bride.see(0, 2, 4);
+        due.is("what can asks is over", bride.can(0, 1, 1) + bride.on(1, 0), 7 + 470);
     }
 
     private static void onBeyondTheLastDay() {
@@ -267,6 +276,9 @@ public final class DaysTest {
             six.set(t, 0, 99);
         }
         due.is("all six", six.pays(6, 3), 63);
+        TurnBack zero = Houses.of("pay 3", 0, 0);
+        zero.set(0, 0, 99);
+        due.is("worth 0, then 3", zero.pays(20, 3), 1);
     }
 
     private static void paysWrong() {

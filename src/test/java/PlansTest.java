@@ -72,6 +72,12 @@ public final class PlansTest {
         due.is("home is not back: to the bar in 5 days", x.ends(0), 490);
         x.plan(-1, 0);
         x.plan(1, 0);
+        for (int i = 0; i < 4; i++) {
+            x.plan(0, 0);
+        }
+        due.is("and not in 4", x.ends(0), 500);
+        x.plan(-1, 0);
+        x.plan(1, 0);
         x.plan(3, 0);
         for (int i = 0; i < 5; i++) {
             x.plan(0, 0);
@@ -96,6 +102,12 @@ public final class PlansTest {
         due.is("worth 99 at most", most.ends(0), 401);
         Houses.season(most, "pay 98");
         due.is("and no less", most.ends(0), 500);
+        TurnBack ten = Houses.of(4, 0);
+        ten.plan(2, 0);
+        ten.plan(0, 0);
+        due.is("10 more", ten.ends(0), 490);
+        ten.set(0, 0, 1);
+        due.is("and no less than 10", ten.ends(0), 500);
     }
 
     private static void book() {
@@ -271,6 +283,7 @@ public final class PlansTest {
         TurnBack slot = new TurnBack();
         slot.image();
         slot.traveller(6, 0, 0, 4);
+        slot.row(0, 0, 8);
         slot.row(0, 1, 9);
         slot.pass(1);
         due.is("turned", slot.of(0, 5), 1);
@@ -278,12 +291,54 @@ public final class PlansTest {
         slot.traveller(6, 0, 0, 4);
         due.is("a new one has not turned", slot.of(0, 5), 0);
         due.is("and is not back", slot.of(0, 4), 0);
-        due.is("and its row is 0", slot.row(0, 1, 0), 0);
+        due.is("and its row is 0", slot.row(0, 0, 0), 0);
+        due.is("in all parts", slot.row(0, 1, 0), 0);
+        imageKeepsRows();
         TurnBack none = Houses.of(0, 0);
         none.image();
         Houses.season(none, "pay 30");
         none.undo();
         due.is("no season holds again", none.told(1), 10);
+    }
+
+    private static void imageKeepsRows() {
+        TurnBack x = Houses.of(4, 0, 0);
+        x.set(1, 1, 8);
+        x.see(1, 2, 10);
+        x.see(0, 2, 4);
+        x.plan(0, 0);
+        x.plan(2, 0);
+        x.plan(0, 0);
+        x.book(1, 8);
+        x.book(0, 4);
+        x.book(0, 7);
+        long[] were = {x.places(0), x.places(1), x.can(0, 0, 0), x.ends(0), x.ends(1), x.looked()};
+        due.are("at first", were, 20, 1792, 11, 490, 2, 2);
+        x.image();
+        x.see(-1, 0, 0);
+        x.see(0, 1, 9);
+        x.see(1, 0, 3);
+        x.plan(-1, 0);
+        x.plan(1, 1);
+        x.plan(3, 0);
+        x.plan(3, 0);
+        x.book(-1, 0);
+        x.book(0, 3);
+        x.book(1, 3);
+        x.undo();
+        long[] are = {x.places(0), x.places(1), x.can(0, 0, 0), x.ends(0), x.ends(1), x.looked()};
+        due.are("as they were", are, were);
+        x.see(-1, 0, 0);
+        x.plan(-1, 0);
+        x.book(-1, 0);
+        x.image();
+        x.see(0, 1, 9);
+        x.plan(0, 0);
+        x.book(0, 3);
+        x.undo();
+        due.is("none seen", x.count(2), 0);
+        due.is("no plan", x.count(3), 0);
+        due.is("no book", x.count(4), 0);
     }
 
     private static void imageLeavesTheRest() {

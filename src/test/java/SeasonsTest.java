@@ -46,9 +46,11 @@ public final class SeasonsTest {
         due.is("a fault is no season", x.count(1), 1);
         Houses.season(x, "less 3 p=0;pay 8;more");
         due.is("nothing of a fault holds", x.of(0, 6), 7);
+        Houses.season(x, "less 3 p=0;more 4 p=0;more 5 p=0;more 6 p=0&");
         for (int i = 1; i < 6; i++) {
             due.is("season " + i, Houses.season(x, "pay " + (10 + i)), i);
             due.is("the newest holds", x.told(1), 10 + i);
+            due.is("and nothing of a fault", x.of(0, 6), 10 + i);
         }
         due.is("full", Houses.season(x, "pay 9"), -4);
         due.is("the text stays", x.count(5), 5);
@@ -282,5 +284,11 @@ public final class SeasonsTest {
         due.is("purse", x.told(2), 500);
         due.is("nothing -1", x.told(-1), -1);
         due.is("nothing 6", x.told(6), -1);
+        TurnBack six = Houses.of(4, 0, 0, 0, 0, 0, 0);
+        six.set(5, 1, 9);
+        six.pass(1);
+        due.is("city of six", six.told(3), 32);
+        due.is("back of six", six.told(4), 31);
+        due.is("bar of six", six.told(5), 31);
     }
 }

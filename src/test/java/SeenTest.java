@@ -203,5 +203,12 @@ public final class SeenTest {
         due.is("part -1", x.mean(1, -1), NO);
         due.is("part 2", x.mean(1, 2), NO);
         due.is("changes nothing", x.of(0, 5), 0);
+        TurnBack six = Houses.of(4, 0, 0, 0, 0, 0, 0);
+        six.set(0, 1, 3);
+        six.set(1, 1, 3);
+        due.is("2 of 3: 4 of 6", six.mean(1, 0), 2);
+        due.is("by 3: 6", six.mean(1, 1), 3);
+        due.is("1 of 1: 6 of 6", six.mean(2, 0), 1);
+        due.is("by 1: 6", six.mean(2, 1), 1);
     }
 }

@@ -125,6 +125,11 @@ public final class TapesTest {
         due.is("none", x.shift(0, 4, 1, 6, 0), 0);
         due.is("to the last", x.shift(0, 3, 1, 5, 1), 1);
         reads(x, 1, 10, 11, 12, 13, 13, 13);
+        row(x, 5, 1, 2);
+        due.is("to tape 5", x.shift(0, 1, 5, 0, 1), 1);
+        reads(x, 5, 11, 61);
+        due.is("from tape 5", x.shift(5, 1, 0, 0, 1), 1);
+        reads(x, 0, 61, 11, 12, 13);
     }
 
     private static void shiftWithinOne() {
