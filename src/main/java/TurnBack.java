@@ -804,30 +804,24 @@ public final class TurnBack {
         int draftSeason() {
             draft.clear();
             at = 0;
-            int fault = clauses() ? -1 : at;
+            boolean whole = false;
+            for (int c = 1; c <= MOST_CLAUSES; c++) {
+                if (!clause()) {
+                    break;
+                }
+                whole = at == length;
+                if (whole || c == MOST_CLAUSES || !passes(';')) {
+                    break;
+                }
+            }
             length = 0;
-            return fault;
+            return whole ? -1 : at;
         }
 
         Season handOver() {
             Season done = draft;
             draft = new Season();
             return done;
-        }
-
-        private boolean clauses() {
-            for (int c = 1; c <= MOST_CLAUSES; c++) {
-                if (!clause()) {
-                    return false;
-                }
-                if (at == length) {
-                    return true;
-                }
-                if (c == MOST_CLAUSES || !passes(';')) {
-                    return false;
-                }
-            }
-            return false;
         }
 
         private boolean clause() {

@@ -19,8 +19,10 @@ public final class TapesTest {
         due.is("60", x.tape(0, 2, 60), 1);
         due.is("0", x.tape(5, 4, 0), 1);
         due.is("the last item", x.item(0, 59, 9), 1);
+        due.is("the first item", x.item(0, 0, 9), 1);
         due.is("all 0 again", x.tape(0, 2, 60), 1);
         due.is("the last item's", x.read(0, 59), 0);
+        due.is("the first item's", x.read(0, 0), 0);
         x.item(0, 3, 9);
         due.is("nothing", x.tape(0, -1, 61), 1);
         due.is("nothing is there", x.read(0, 0), NO);
