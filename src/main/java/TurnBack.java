@@ -1,7 +1,4 @@
-/**
- * A house with a bar on the road to a city: it pays those who turn back.
- * The promises that the comments name are those of the document.
- */
+/** A house with a bar on the road to a city: it pays those who turn back. */
 public final class TurnBack {
     public static final int NONE = -1, BAD = -2, STATE = -3, FULL = -4;
     public static final long NO = Long.MIN_VALUE;
@@ -45,9 +42,6 @@ public final class TurnBack {
         }
         if (!within(v, 9) || !within(worth, MOST_WORTH)) {
             return BAD;
-        }
-        if (road.count >= MOST_TRAVELLERS) {
-            return FULL;
         }
         return road.welcome(kind, v, worth, place);
     }
@@ -611,6 +605,7 @@ public final class TurnBack {
             }
         }
 
+        /** The number of the one who comes. */
         int welcome(int newKind, int newV, int newWorth, int newPlace) {
             int t = count;
             if (t >= MOST_TRAVELLERS) {
