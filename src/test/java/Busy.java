@@ -25,18 +25,27 @@ final class Busy {
         x.pass(2);
         x.back(3, true);
         x.purse(300);
-        x.see(1, 2, 6);
+        seen(x, 1, 2);
+        seen(x, 3, 4);
         x.plan(2, 1);
-        x.book(1, 4);
+        x.plan(0, 0);
+        x.book(1, x.of(1, 3));
+        x.book(2, 0);
         x.image();
         Houses.season(x, "pay 25;less 4 d>6&p>0");
         x.pass(1);
-        x.see(4, 1, 5);
-        x.plan(0, 0);
-        x.book(3, 9);
         x.set(2, 0, 31);
         x.set(1, 1, 3);
         x.row(0, 2, 8);
+        x.see(-1, 0, 0);
+        seen(x, 4, 1);
+        seen(x, 0, 12);
+        x.plan(1, 2);
+        x.plan(3, 4);
+        x.book(-1, 0);
+        x.book(3, x.of(3, 3));
+        x.book(4, x.of(4, 3));
+        x.book(0, 0);
         for (int tape = 0; tape < 5; tape++) {
             x.tape(tape, tape == 1 ? 0 : tape, 4);
             x.item(tape, 1, 1 + tape);
@@ -46,7 +55,12 @@ final class Busy {
         return x;
     }
 
-    /** What an object answers when it is asked all it knows, then read, then undone: about 300 calls, which use it up. */
+    /** Tells of one what comes true, so that each other answer of its days is seen. */
+    private static void seen(TurnBack x, int t, int days) {
+        x.see(t, days, x.on(days, 10 + t));
+    }
+
+    /** What an object answers when it is asked all it knows, then reads its text, then is undone: some 300 calls. */
     static long[] probe(TurnBack x) {
         Busy busy = new Busy(x);
         busy.travellers();

@@ -73,7 +73,7 @@ public final class PlansSentencesTest {
                     s.refuses(-1, "what " + what + ", traveller " + traveller, x -> x.plan(goes, traveller));
                 }
                 TurnBack x = Busy.house();
-                s.is("what 0, traveller " + traveller, x.plan(0, traveller), 3);
+                s.is("what 0, traveller " + traveller, x.plan(0, traveller), 5);
                 x.plan(-1, 0);
                 x.plan(0, traveller);
                 s.is("it is a day", x.ends(0), x.on(1, 0));

@@ -48,6 +48,38 @@ public final class Terms2SentencesTest {
             s.asks("ends", x -> x.ends(0));
             s.asks("looked", x -> x.looked());
         });
+        s.holds("goes on from how all is", () -> {
+            TurnBack x = new TurnBack();
+            x.traveller(6, 0, 0, 4);
+            x.traveller(1, 9, 0, 10);
+            for (int part = 0; part < 4; part++) {
+                x.row(0, part, part + 1);
+            }
+            for (int day = 0; day <= 5; day++) {
+                s.is("by the row, on day " + day, x.on(1, 0), 500 - 10 - (day % 4 + 1));
+                x.set(0, 1, 0);
+                x.pass(1);
+                x.set(0, 1, 4);
+            }
+            x.set(1, 1, 4);
+            x.set(0, 1, 10);
+            s.is("by its v", x.on(1, 0), 481);
+            x.set(1, 0, 20);
+            s.is("by its worth", x.on(1, 0), 500);
+            x.set(1, 0, 19);
+            x.purse(19);
+            s.is("by the purse", x.on(1, 0), 0);
+            x.set(1, 1, 6);
+            x.back(1, true);
+            s.is("by whether it is back", x.on(1, 11), 5);
+            s.is("and by where it is", x.on(1, 0), 19);
+            Inside.turn(x, 1, 3);
+            s.is("by how often it turned", x.on(0, 21), 3);
+            Houses.season(x, "pay 1");
+            x.set(1, 1, 4);
+            x.set(1, 0, 0);
+            s.is("by the season", x.on(1, 0), 9);
+        });
         s.holds("(DAYS, TURNED beyond 9999, too)", () -> {
             TurnBack x = Houses.of(10, 0, 5, 6);
             Houses.pass(x, 9999);
@@ -185,6 +217,10 @@ public final class Terms2SentencesTest {
             TurnBack all = Houses.of(9, 0, 0, 0, 0, 0, 0);
             s.is("all six: 0", all.pays(1, 0), 0);
             s.is("all six: how many", all.pays(1, 1), 6);
+            all.set(3, 1, 4);
+            all.set(3, 0, 30);
+            s.is("five of six", all.pays(6, 0), 30);
+            s.is("five of six: how many", all.pays(6, 1), 5);
         });
     }
 
@@ -258,6 +294,12 @@ public final class Terms2SentencesTest {
             s.is("all six", all.pays(6, 3), 63);
             all.purse(59);
             s.is("not enough for six: none", all.pays(6, 3), -5);
+            // A worth of 0 is 3 the second time, on the 15th day.
+            TurnBack second = Houses.of("pay 3", 0, 0);
+            second.set(0, 0, 99);
+            s.is("worth 0 turns twice for 3", second.pays(20, 3), 1);
+            Houses.season(second, "pay 2");
+            s.is("and once for 2", second.pays(20, 3), -5);
             // Either of two would leave enough for the other.
             TurnBack either = Houses.of("pay 10;more 40 w>4", 4, 0, 0);
             either.set(0, 0, 50);
@@ -697,8 +739,10 @@ public final class Terms2SentencesTest {
             x.set(0, 0, 77);
             x.set(1, 1, 9);
             x.back(3, false);
-            x.row(0, 1, 9);
-            x.row(5, 1, 9);
+            for (int part = 0; part < 4; part++) {
+                x.row(0, part, 9);
+                x.row(5, part, 9);
+            }
             x.purse(7);
             x.pass(3);
             x.see(0, 12, 4);
@@ -715,6 +759,7 @@ public final class Terms2SentencesTest {
             none.book(0, 0);
             none.undo();
             s.same("rows are as they were", none, kept());
+            rowsAreKept(s);
             TurnBack seasons = Houses.of("pay 11;more 4 p=0", 0, 0);
             seasons.image();
             Houses.season(seasons, "pay 22");
@@ -727,6 +772,37 @@ public final class Terms2SentencesTest {
             before.undo();
             s.is("no season held", before.told(1), 10);
         });
+    }
+
+    private static long[] byRows(TurnBack x) {
+        return new long[] {x.places(0), x.places(1), x.can(0, 0, 0), x.ends(0), x.ends(1), x.looked(), x.count(2), x.count(3),
+            x.count(4)};
+    }
+
+    private static void rowsAreKept(Sentences s) {
+        TurnBack x = Houses.of(4, 0, 0);
+        x.set(1, 1, 8);
+        x.see(1, 2, 10);
+        x.see(0, 2, 4);
+        x.plan(0, 0);
+        x.plan(2, 0);
+        x.plan(0, 0);
+        x.book(1, 8);
+        x.book(0, 4);
+        x.book(0, 7);
+        s.are("by the rows", byRows(x), 20, 1792, 11, 490, 2, 2, 2, 3, 3);
+        x.image();
+        x.see(-1, 0, 0);
+        x.plan(-1, 0);
+        x.book(-1, 0);
+        for (int row = 0; row < 3; row++) {
+            x.see(0, 1, 9);
+            x.plan(1, 1);
+            x.book(1, 3);
+        }
+        s.are("by others", byRows(x), 256, 0, 0, 500, 0, 0, 3, 3, 3);
+        x.undo();
+        s.are("by the rows again", byRows(x), 20, 1792, 11, 490, 2, 2, 2, 3, 3);
     }
 
     private static void whatIsNotInTheImage(Sentences s) {

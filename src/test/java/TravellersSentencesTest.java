@@ -372,6 +372,11 @@ public final class TravellersSentencesTest {
             }
             s.is("the greatest fault", Houses.season(new TurnBack(), "more 1 p=00" + "&p=0".repeat(22) + "&"), -110);
             s.is("without one that held", faultAlone().told(1), 10);
+            // Clauses that were read ahead of a fault are none of the next season's.
+            TurnBack next = Houses.of(0, 0);
+            s.is("a fault behind clauses", Houses.season(next, "more 4 p=0;pay 44;less 1 p=0;more 8 p<6&"), -50);
+            s.is("the next one", Houses.season(next, "more 1 p=0"), 0);
+            s.is("by its clause alone", next.of(0, 6), 11);
             // A fault leaves nothing behind but a text that is empty.
             TurnBack before = Busy.house();
             TurnBack after = Busy.house();
