@@ -54,7 +54,8 @@ public final class ReadmeTest {
             } else if (fence.equals("```java")) {
                 java(i + 1, line);
             } else {
-                due.holds("line " + (i + 1) + " shows no call, as it would not be run: " + line, !ANY.matcher(line).find());
+                due.holds("line " + (i + 1) + " shows no call, as it would not be run: " + line,
+                    !ANY.matcher(line).find());
             }
         }
         due.holds("each block has an end", fence.isEmpty());
@@ -104,8 +105,8 @@ public final class ReadmeTest {
 
     private long[] run(Path room) throws IOException, ReflectiveOperationException {
         Path source = room.resolve("ReadmeShows.java");
-        Files.writeString(source, "public final class ReadmeShows {\npublic static long[] answers() {\nlong[] got = new long["
-            + shown.size() + "];\n" + body + "return got;\n}\n}\n");
+        Files.writeString(source, "public final class ReadmeShows {\npublic static long[] answers() {\n"
+            + "long[] got = new long[" + shown.size() + "];\n" + body + "return got;\n}\n}\n");
         JavaCompiler compiler = ToolProvider.getSystemJavaCompiler();
         due.holds("there is a compiler", compiler != null);
         if (compiler == null) {
@@ -151,7 +152,8 @@ public final class ReadmeTest {
             if (name != null) {
                 named.add(name);
                 String told = name.equals("NO") ? "NO = Long.MIN_VALUE" : name + " (" + one.answer() + ")";
-                due.holds("line " + one.line() + ": the document has " + told, document.isEmpty() || document.contains(told));
+                due.holds("line " + one.line() + ": the document has " + told,
+                    document.isEmpty() || document.contains(told));
             }
         }
         for (String constant : List.of("NONE", "BAD", "STATE", "FULL", "NO")) {
